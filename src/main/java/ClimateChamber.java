@@ -518,7 +518,9 @@ public final class ClimateChamber {
             }
             cells[next] = number;
             next = next + 1 < cells.length ? next + 1 : 0;
-            kept = Math.min(kept + 1, cells.length);
+            if (kept < cells.length) {
+                kept++;
+            }
         }
 
         int latest(int back) {

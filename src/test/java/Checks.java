@@ -6,12 +6,28 @@ final class Checks {
         void run();
     }
 
+    private static final long MOST_MILLISECONDS = 600_000;
+
     private final String suite;
     private int right;
     private int wrong;
 
     Checks(String suite) {
         this.suite = suite;
+        Thread watch = new Thread(this::endLate);
+        watch.setDaemon(true);
+        watch.start();
+    }
+
+    /** A call that does not end fails the tests instead of holding them up. */
+    private void endLate() {
+        try {
+            Thread.sleep(MOST_MILLISECONDS);
+        } catch (InterruptedException e) {
+            return;
+        }
+        System.out.println(suite + ": not ended in time");
+        Runtime.getRuntime().halt(1);
     }
 
     void due(String what, long want, long got) {

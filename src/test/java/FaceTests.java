@@ -46,10 +46,12 @@ public final class FaceTests {
         "int load() IllegalArgumentException IllegalStateException",
     };
 
-    private static final String[] FORBIDDEN = {"import ", "package ", "catch", "finally",
-        "synchronized", "assert ", "->", "::", "instanceof", "@", "var ", "float ", "while (true)",
-        "for (;;)", "System.out", "System.nano", "System.current", "Exact(",
-        "String.", "Integer.", "List<"};
+    private static final String[] FORBIDDEN = {"package ", "finally", "synchronized", "assert ", "->",
+        "::", "@", "var ", "while (true)", "for (;;)", "System.out", "System.nano", "System.current",
+        "Thread", "Random", "Exact(", "Throwable"};
+
+    private static final String EXCEPTION =
+        "(IllegalState|IllegalArgument|IndexOutOfBounds)Exception";
 
     private static final Checks CHECKS = new Checks("face");
 
@@ -128,8 +130,12 @@ public final class FaceTests {
         for (String word : FORBIDDEN) {
             CHECKS.isTrue("no " + word, !code.contains(word));
         }
-        CHECKS.due("classes", 11, code.split("\\bclass\\b", -1).length - 1);
-        CHECKS.due("throws by hand", 3, code.split("\\bthrow\\b", -1).length - 1);
+        CHECKS.isTrue("classes", code.split("\\b(class|record|enum|interface) ", -1).length - 1 <= 12);
+        CHECKS.due("throws of the document's exceptions, with written texts",
+            code.split("\\bthrow\\b", -1).length - 1,
+            code.split("\\bthrow new " + EXCEPTION + "\\((\"[^\"]*\")?\\);", -1).length - 1);
+        CHECKS.due("imports of what rule 4 lists", code.split("\\bimport\\b", -1).length - 1,
+            code.split("\\bimport java[.]util[.](ArrayList|List|Arrays|Iterator);", -1).length - 1);
         CHECKS.isTrue("no texts joined by +", !code.matches("(?s).*(\"\\s*\\+|\\+\\s*\").*"));
     }
 
