@@ -99,11 +99,14 @@ public final class TextTests extends Sentences {
             dueValues(x, SAVED, 0);
         });
         test("Empties the buffer.", x -> {
-            type(x, ONE);
-            x.clear();
-            type(x, ONE.substring(0, 8));
             // the old characters do not come back
-            due(8, x.errorPosition());
+            type(x, "t1234h1r1s1;");
+            x.clear();
+            String text = "t1h1r1s1";
+            for (int length = 1; length <= text.length(); length++) {
+                x.append(text.charAt(length - 1));
+                due(length, x.errorPosition());
+            }
             changesNothing(RAMPING, y -> {
                 y.clear();
                 type(y, "t1h2");
@@ -146,6 +149,7 @@ public final class TextTests extends Sentences {
             dueThrow(OUT, x, y -> y.segment(2, 0));
             due(0, x.errorPosition());
             due(1, x.append('t'));
+            due(1, x.errorPosition());
         });
         test("Replaces all segments by those of the text", x -> {
             StringBuilder text = new StringBuilder();
