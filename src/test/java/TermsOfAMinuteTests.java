@@ -1,6 +1,7 @@
 /**
- * A test for each sentence of the document's "Terms", part A MINUTE, that names a boundary case. What is due
- * was reckoned by hand; the reckoning stands beside it where it is not plain.
+ * A test for each sentence of the document's "Terms" that names a boundary case,
+ * in the part A MINUTE. What is due was reckoned by hand; the
+ * reckoning stands beside it where it is not plain.
  */
 public final class TermsOfAMinuteTests extends Sentences {
 

@@ -1,8 +1,9 @@
 import java.math.BigInteger;
 
 /**
- * A test for each sentence of the document's "Terms", part PROGRAMS and AUDIT TRAIL, that names a boundary case. What is due
- * was reckoned by hand; the reckoning stands beside it where it is not plain.
+ * A test for each sentence of the document's "Terms" that names a boundary case,
+ * in the parts PROGRAMS and AUDIT TRAIL. What is due was reckoned by hand; the
+ * reckoning stands beside it where it is not plain.
  */
 public final class TermsOfProgramsTests extends Sentences {
 

@@ -1,6 +1,7 @@
 /**
- * A test for each sentence of the document's "Terms", part UNITS, SETTINGS and CHAMBER, that names a boundary case. What is due
- * was reckoned by hand; the reckoning stands beside it where it is not plain.
+ * A test for each sentence of the document's "Terms" that names a boundary case,
+ * in the parts UNITS, SETTINGS and CHAMBER. What is due was reckoned by hand; the
+ * reckoning stands beside it where it is not plain.
  */
 public final class TermsOfSettingsTests extends Sentences {
 

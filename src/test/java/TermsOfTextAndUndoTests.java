@@ -1,6 +1,7 @@
 /**
- * A test for each sentence of the document's "Terms", part TEXT and UNDO AND ERRORS, that names a boundary case. What is due
- * was reckoned by hand; the reckoning stands beside it where it is not plain.
+ * A test for each sentence of the document's "Terms" that names a boundary case,
+ * in the parts TEXT and UNDO AND ERRORS. What is due was reckoned by hand; the
+ * reckoning stands beside it where it is not plain.
  */
 public final class TermsOfTextAndUndoTests extends Sentences {
 
