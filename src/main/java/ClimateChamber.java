@@ -318,26 +318,21 @@ public final class ClimateChamber {
     public int bestMode(int minutes) throws IllegalArgumentException {
         requireArgument(isWithin(minutes, 1, 200));
         int best = 0;
-        int least = sumOfOffsets(0, minutes);
-        for (int mode = 1; mode < MODES; mode++) {
-            int sum = sumOfOffsets(mode, minutes);
-            if (sum < least) {
+        int least = 0;
+        for (int mode = 0; mode < MODES; mode++) {
+            trial.copy(now);
+            trial.temperatureChannel.mode = mode;
+            int sum = 0;
+            for (int i = 0; i < minutes; i++) {
+                trial.letMinutePass();
+                sum += trial.climate.temperatureOffset();
+            }
+            if (mode == 0 || sum < least) {
                 least = sum;
                 best = mode;
             }
         }
         return best;
-    }
-
-    private int sumOfOffsets(int mode, int minutes) {
-        trial.copy(now);
-        trial.temperatureChannel.mode = mode;
-        int sum = 0;
-        for (int i = 0; i < minutes; i++) {
-            trial.letMinutePass();
-            sum += trial.climate.temperatureOffset();
-        }
-        return sum;
     }
 
     // ---- text

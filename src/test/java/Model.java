@@ -8,7 +8,7 @@ import java.util.regex.Pattern;
 
 /**
  * The document once more, as slow and as literal as can be: names in a map, nothing forgotten, every
- * text read by a pattern. RandomRunTests compares the class with it.
+ * text read by a pattern. RandomRunTests and EveryCallTests compare the class with it.
  */
 final class Model {
 
@@ -216,6 +216,16 @@ final class Model {
         w.put("heaterRest", 1000);
         w.put("coolerRest", 1000);
         w.put("cycles", 1);
+    }
+
+    Model copy() {
+        Model other = new Model();
+        other.w = w.copy();
+        for (World one : saved) {
+            other.saved.add(one.copy());
+        }
+        other.buffer = buffer;
+        return other;
     }
 
     private static void index(boolean good) {
