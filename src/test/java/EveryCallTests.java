@@ -58,20 +58,27 @@ public final class EveryCallTests {
 
     public static void main(String[] args) {
         addStates();
-        for (Map.Entry<String, List<String>> state : STATES.entrySet()) {
-            Model model = new Model();
-            for (String call : state.getValue()) {
-                answer(MODELS, model, call);
-            }
-            for (String call : CALLS) {
-                int promise = PROMISES.indexOf(call.substring(0, call.indexOf('('))) + 2;
-                for (int look = 0; look < 3; look++) {
-                    new EveryCallTests("promise " + promise + ", in " + state.getKey() + " behind " + call,
-                        state.getValue(), model.copy()).go(call, look);
-                }
+        STATES.forEach((name, state) -> {
+            tryCalls(name, state, CALLS);
+            List<String> unsaved = new ArrayList<>(state);
+            unsaved.addAll(calls("6 set(7, 20)", "6 undo()"));
+            tryCalls(name + " without saved states", unsaved, List.of("undo()"));
+        });
+        CHECKS.finish();
+    }
+
+    private static void tryCalls(String name, List<String> state, List<String> calls) {
+        Model model = new Model();
+        for (String call : state) {
+            answer(MODELS, model, call);
+        }
+        for (String call : calls) {
+            int promise = PROMISES.indexOf(call.substring(0, call.indexOf('('))) + 2;
+            String label = "promise " + promise + ", in " + name + " behind " + call;
+            for (int look = 0; look < 3; look++) {
+                new EveryCallTests(label, state, model.copy()).go(call, look);
             }
         }
-        CHECKS.finish();
     }
 
     // ---- the states
@@ -86,14 +93,12 @@ public final class EveryCallTests {
         List<String> idle = state("an idle one", used, "stop()", "setPoints(231, 433)", "pass(2)",
             "text t-20h30r4s5;t1h2r0s3;");
         state("an idle one with an open door", idle, "door(true)", "pass(3)");
-        state("an idle one with one saved state", idle, "undo()", "undo()", "undo()", "undo()", "undo()");
+        state("an idle one with one saved state", idle, "5 undo()");
         state("one with a wrong text", used, "stop()", "text t1801h1r1s1;t1h1r0s0;");
-        state("one with a long wrong text", used, "stop()", "text " + "t1h1r1s1;".repeat(9) + "t1h1r1s1t");
+        state("one with a long wrong text", used, "stop()",
+            "text " + "t1h1r1s1;".repeat(9) + "t1h1r1s1t");
         state("a stopped one, blocked", used, "pass(9)", "stop()");
-        state("one whose heating is blocked", List.of(), "set(4, 0)", "set(8, 30)",
-            "setPoints(185, 420)", "pass(1)", "setPoints(230, 380)", "pass(2)");
-        state("one whose cooling is blocked", List.of(), "set(4, 0)", "set(8, 4)", "setPoints(220, 380)",
-            "pass(1)", "setPoints(180, 420)", "pass(2)");
+        addBlocked();
         state("one with 12 segments", List.of(), "10 addSegment(210, 410, 1, 1)",
             "2 addSegment(190, 390, 0, 1)", "setCycles(2)", "text t1h1r1s1;");
         state("a failed one", List.of(), "set(11, 2)", "addSegment(1000, 900, 2, 5)", "setCycles(3)",
@@ -108,6 +113,25 @@ public final class EveryCallTests {
         addLate(idle);
     }
 
+    /** Chambers that are blocked in the latest minute, the next one, or both. */
+    private static void addBlocked() {
+        List<String> heated = calls("addSegment(230, 380, 0, 5)", "addSegment(190, 380, 8, 5)",
+            "set(4, 0)", "set(8, 4)", "setPoints(220, 380)", "pass(1)");
+        List<String> cooled = calls("addSegment(230, 380, 0, 5)", "set(4, 0)", "set(8, 30)",
+            "setPoints(185, 420)", "pass(1)");
+        state("one whose heating is blocked", cooled, "setPoints(230, 380)", "pass(2)",
+            "text t1h1r1s1;");
+        state("one whose heating will be blocked", cooled, "setPoints(230, 380)", "text t1h1r1s1;");
+        List<String> blocked = state("one whose cooling is blocked", heated, "setPoints(180, 420)",
+            "pass(2)");
+        state("a blocked one whose door has just been opened", blocked, "door(true)");
+        state("a blocked one whose door was open for a minute", blocked, "door(true)", "pass(1)");
+        state("a program whose heating is blocked", cooled, "start()", "pass(1)");
+        state("a program whose heating will be blocked", cooled, "start()");
+        state("a program whose cooling was blocked until now", heated, "start()", "pass(2)", "stop()",
+            "removeSegment(0)", "start()", "pass(4)");
+    }
+
     private static void addRunning(List<String> used) {
         List<String> soaking = state("a soak", used, "text t1h2");
         state("a held soak", soaking, "hold(true)");
@@ -117,9 +141,11 @@ public final class EveryCallTests {
         state("a held ramp with an open door", held, "door(true)", "pass(2)");
         state("a ramp with an open door", ramping, "door(true)", "pass(1)");
         state("a blocked program", used, "pass(9)");
-        state("a long ramp", List.of(), "addSegment(600, 800, 90, 3)", "addSegment(100, 100, 20, 0)",
-            "start()", "pass(30)");
-        state("a program of 12 segments", List.of(), "12 addSegment(210, 410, 1, 1)", "start()", "pass(7)");
+        List<String> longRamp = state("a long ramp", List.of(), "addSegment(600, 800, 90, 3)",
+            "addSegment(100, 100, 20, 0)", "start()", "pass(30)");
+        state("a held long ramp", longRamp, "hold(true)", "pass(3)");
+        state("a program of 12 segments", List.of(), "12 addSegment(210, 410, 1, 1)", "start()",
+            "pass(7)");
         state("a program without saved states", used, "6 pass(1)", "6 undo()");
         addTurning();
     }
@@ -245,8 +271,9 @@ public final class EveryCallTests {
         for (int i = 0; i < 4 * segments; i++) {
             ask("segment(" + i / 4 + ", " + i % 4 + ")");
         }
-        for (int back = 0; back <= 60 && model.history(back) != Model.NONE; back++) {
-            ask("history(" + back + ")");
+        int back = 0;
+        while (!ask("history(" + back + ")").equals("-10000")) {
+            back++;
         }
         rows();
         ask("spread(60)");
@@ -289,9 +316,9 @@ public final class EveryCallTests {
         ask("errorPosition()");
         ask("clear()");
         for (int i = 0; i < 8; i++) {
+            ask(i == 4 ? "hold(false)" : "auditCode()");
             ask("pass(1)");
             values();
-            ask("auditCode()");
         }
         ask("pass(60)");
         rows();

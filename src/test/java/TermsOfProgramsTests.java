@@ -20,6 +20,7 @@ public final class TermsOfProgramsTests extends Sentences {
         programs();
         endOfAProgram();
         results();
+        resultsOfMorePrograms();
         endOfSection();
         section("Terms: AUDIT TRAIL");
         auditTrail();
@@ -253,6 +254,33 @@ public final class TermsOfProgramsTests extends Sentences {
             dueResult(x, 0, 0, 17, 1, 0);
             dueResult(x, 15, 0, 2, 1, 0);
             dueResult(x, 16, NONE, NONE, NONE, NONE);
+        });
+    }
+
+    private void resultsOfMorePrograms() {
+        test("The latest 16 results are kept.", x -> {
+            // behind a program that is started anew, stopped or fails, too
+            program(x, 200, 400, 0, 1, 200, 400, 0, 2);
+            x.pass(2);
+            x.stop();
+            dueResult(x, 0, 0, 1, 1, 0);
+            x.start();
+            dueResult(x, 0, 0, 1, 1, 0);
+            x.pass(3);
+            dueResult(x, 0, 1, 1, 2, 0);
+            dueResult(x, 1, 0, 1, 1, 0);
+            dueResult(x, 2, 0, 1, 1, 0);
+            dueResult(x, 3, NONE, NONE, NONE, NONE);
+            x.removeSegment(1);
+            x.addSegment(1000, 400, 0, 1);
+            x.set(11, 0);
+            x.start();
+            x.pass(2);
+            dueValues(x, PHASE, FAILED);
+            dueResult(x, 0, 0, 1, 1, 0);
+            dueResult(x, 1, 1, 1, 2, 0);
+            dueResult(x, 3, 0, 1, 1, 0);
+            dueResult(x, 4, NONE, NONE, NONE, NONE);
         });
     }
 

@@ -331,7 +331,7 @@ public final class TermsOfTextAndUndoTests extends Sentences {
 
     private void questions() {
         test("nothing changes, and the limit of time does not apply", x -> {
-            Use[] all = {IDLE_ONE, RAMPING, SOAKING, HELD_ONE, FAILED_ONE};
+            Use[] all = {IDLE_ONE, RAMPING, SOAKING, HELD_ONE, BLOCKED_ONE, OPEN_ONE, FAILED_ONE};
             for (Use one : all) {
                 changesNothing(one, y -> {
                     y.valueIn(0, 300);
@@ -342,6 +342,8 @@ public final class TermsOfTextAndUndoTests extends Sentences {
             }
             changesNothing(RAMPING, y -> y.doneIn());
             changesNothing(SOAKING, y -> y.doneIn());
+            changesNothing(BLOCKED_ONE, y -> y.doneIn());
+            changesNothing(OPEN_ONE, y -> y.doneIn());
         });
         test("nothing changes, and the limit of time does not apply", x -> {
             AT_LATEST_TIME.of(x);

@@ -12,20 +12,29 @@ public final class WhatWouldBeTests extends Sentences {
     private void run() {
         section("Promise 23: valueIn");
         valueIn();
+        valueInAsItThenIs();
         endOfSection();
         section("Promise 24: doneIn");
         doneIn();
+        doneInAsItThenIs();
         endOfSection();
         section("Promise 25: reachIn");
         reachIn();
         reachInAsIf();
+        reachInAsItThenIs();
         endOfSection();
         section("Promise 26: bestMode");
         bestMode();
         bestModeOfSeveral();
+        bestModeOfAProgram();
+        bestModeAsItThenIs();
         endOfSection();
         finish();
     }
+
+    /** What would be in these is compared with what then is in a twin. */
+    private static final Use[] ALL = {IDLE_ONE, RAMPING, SOAKING, HELD_ONE, BLOCKED_ONE, OPEN_ONE,
+        DONE_ONE, FAILED_ONE};
 
     /** One degree a minute, and nothing else that changes the temperature. */
     private static void slow(ClimateChamber x) {
@@ -52,15 +61,8 @@ public final class WhatWouldBeTests extends Sentences {
             refuse(ARGUMENT, y -> { }, y -> y.valueIn(0, -1), y -> y.valueIn(0, 301));
         });
         test("Returns the temperature or the humidity after so many minutes.", x -> {
+            due(200, x.valueIn(0, 0));
             due(400, x.valueIn(1, 0));
-            Use[] all = {IDLE_ONE, RAMPING, SOAKING, HELD_ONE, FAILED_ONE};
-            for (Use one : all) {
-                ClimateChamber y = make(one);
-                int temperature = y.valueIn(0, 7);
-                int humidity = y.valueIn(1, 7);
-                due(temperature, y.pass(7));
-                dueValues(y, TEMPERATURE, temperature, HUMIDITY, humidity);
-            }
         });
         test("Returns the temperature or the humidity after so many minutes.", x -> {
             AT_LATEST_TIME.of(x);
@@ -76,6 +78,44 @@ public final class WhatWouldBeTests extends Sentences {
             refuse(ARGUMENT, RAMPING, y -> y.valueIn(0, -1), y -> y.valueIn(1, -1),
                 y -> y.valueIn(0, 301), y -> y.valueIn(1, 301), y -> y.valueIn(0, MIN),
                 y -> y.valueIn(0, MAX)));
+    }
+
+    private void valueInAsItThenIs() {
+        test("Returns the temperature or the humidity after so many minutes.", x -> {
+            for (Use one : ALL) {
+                for (int minutes : new int[] {1, 2, 7, 30, 300}) {
+                    ClimateChamber y = make(one);
+                    int temperature = y.valueIn(0, minutes);
+                    int humidity = y.valueIn(1, minutes);
+                    due(temperature, y.pass(minutes));
+                    dueValues(y, TEMPERATURE, temperature, HUMIDITY, humidity);
+                }
+            }
+        });
+        test("Tells a value after some minutes.", x -> {
+            // the cooler waits for three minutes
+            x.set(4, 0);
+            points(x, 220, 400);
+            x.setPoints(205, 400);
+            due(220, x.valueIn(0, 3));
+            due(205, x.valueIn(0, 4));
+            // the door stays open
+            x.door(true);
+            // of 20, 5 are lost
+            due(215, x.valueIn(0, 1));
+        });
+        test("Tells a value after some minutes.", x -> {
+            // the program goes on, from segment to segment
+            x.set(4, 0);
+            program(x, 220, 400, 0, 1, 200, 400, 4, 0, 260, 400, 0, 9);
+            due(220, x.valueIn(0, 1));
+            // the cooler waits until the ramp's last minute, and then the heater for three
+            due(205, x.valueIn(0, 5));
+            due(205, x.valueIn(0, 8));
+            due(225, x.valueIn(0, 9));
+            x.hold(true);
+            due(200, x.valueIn(0, 300));
+        });
     }
 
     private void doneIn() {
@@ -132,6 +172,37 @@ public final class WhatWouldBeTests extends Sentences {
             program(x, 200, 400, 500, 500);
             due(1000, x.doneIn());
             dueValues(x, TIME, 20000, PHASE, RAMP);
+        });
+    }
+
+    private void doneInAsItThenIs() {
+        test("Returns in how many minutes, 1 to 1000, the phase would become done", x -> {
+            Use[] running = {RAMPING, SOAKING, HELD_ONE, BLOCKED_ONE, OPEN_ONE, DONE_ONE, FAILED_ONE};
+            for (Use one : running) {
+                ClimateChamber y = make(one);
+                if (y.value(SEGMENT) == NONE) {
+                    y.start();
+                }
+                int told = y.doneIn();
+                int minutes = 0;
+                while (minutes < 200 && y.value(PHASE) != DONE) {
+                    y.pass(1);
+                    minutes++;
+                }
+                due(told, y.value(PHASE) == DONE ? minutes : NONE);
+            }
+        });
+        test("the phase would become done", x -> {
+            // blocked for three minutes, which are paused ones
+            x.set(4, 0);
+            points(x, 220, 400);
+            program(x, 205, 400, 0, 1);
+            due(4, x.doneIn());
+            // the door stays open: 500 comes in
+            x.door(true);
+            due(3, x.doneIn());
+            x.set(9, 500);
+            due(NONE, x.doneIn());
         });
     }
 
@@ -232,6 +303,34 @@ public final class WhatWouldBeTests extends Sentences {
         });
     }
 
+    private void reachInAsItThenIs() {
+        test("if no program ran, the door was closed, and the set point was this temperature", x -> {
+            for (Use one : ALL) {
+                for (int temperature : new int[] {180, 199, 216, 240, 700}) {
+                    due(reached(make(one), temperature), make(one).reachIn(temperature));
+                }
+            }
+        });
+    }
+
+    private static int reached(ClimateChamber y, int temperature) {
+        if (y.value(SEGMENT) != NONE) {
+            y.stop();
+        }
+        if (y.value(DOOR) == 1) {
+            y.door(false);
+        }
+        y.setPoints(temperature, y.value(HUMIDITY_POINT));
+        int tolerance = y.setting(6);
+        for (int minutes = 0; minutes < 200; minutes++) {
+            if (Math.abs(temperature - y.value(TEMPERATURE)) <= tolerance) {
+                return minutes;
+            }
+            y.pass(1);
+        }
+        return NONE;
+    }
+
     private void bestMode() {
         test("`minutes`: 1 to 200", x -> {
             x.set(4, 0);
@@ -327,5 +426,72 @@ public final class WhatWouldBeTests extends Sentences {
             due(1, x.bestMode(200));
             dueValues(x, TIME, 20000, TEMPERATURE, 200);
         });
+    }
+
+    private void bestModeOfAProgram() {
+        test("the sum of the absolute values of set point - temperature", x -> {
+            // the set points go where the program takes them: 205, and then 260
+            x.set(4, 0);
+            x.setMode(0, 0, 20, 5);
+            program(x, 205, 400, 0, 1, 260, 400, 0, 9);
+            // 5 in the band, or 4 with a fifth of it
+            due(1, x.bestMode(1));
+            // 5 + 40, or 4 + 48
+            due(0, x.bestMode(2));
+            // held, they stay at 200, while 10 come in: 10 + 9, 10 + 17, or 10 + 4
+            x.hold(true);
+            x.set(9, 300);
+            x.set(4, 10);
+            due(2, x.bestMode(2));
+        });
+        test("the sum of the absolute values of set point - temperature", x -> {
+            // the humidity's channel stays as it is: too slow for the soak to end
+            x.set(4, 0);
+            x.setMode(0, 0, 20, 5);
+            x.setMode(1, 1, 1, 0);
+            program(x, 205, 460, 0, 1, 260, 460, 0, 9);
+            due(1, x.bestMode(9));
+            // with 10 a minute it ends in the fourth
+            x.setMode(1, 0, 1, 2);
+            due(0, x.bestMode(9));
+        });
+        test("would be least", x -> {
+            // with an open door no mode does anything
+            x.set(4, 0);
+            x.setMode(0, 0, 100, 50);
+            x.setPoints(250, 400);
+            due(1, x.bestMode(1));
+            x.door(true);
+            due(0, x.bestMode(1));
+        });
+    }
+
+    private void bestModeAsItThenIs() {
+        test("Returns the mode, 0 to 2, with which (with the present gain and band) the sum", x -> {
+            for (Use one : ALL) {
+                Use made = y -> {
+                    one.of(y);
+                    y.setMode(0, 1, 70, 3);
+                };
+                for (int minutes : new int[] {1, 2, 5, 20, 140}) {
+                    due(best(made, minutes), make(made).bestMode(minutes));
+                }
+            }
+        });
+    }
+
+    private static int best(Use made, int minutes) {
+        int[] sums = new int[3];
+        int best = 0;
+        for (int mode = 0; mode < 3; mode++) {
+            ClimateChamber y = make(made);
+            y.setMode(0, mode, 70, 3);
+            for (int i = 0; i < minutes; i++) {
+                y.pass(1);
+                sums[mode] += Math.abs(y.value(TEMPERATURE_POINT) - y.value(TEMPERATURE));
+            }
+            best = sums[mode] < sums[best] ? mode : best;
+        }
+        return best;
     }
 }
